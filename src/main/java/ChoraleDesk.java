@@ -48,7 +48,8 @@ public final class ChoraleDesk {
 
   // ---- writing
 
-  public int addNote(int part, int place, int alter, int value) {
+  public int addNote(int part, int place, int alter, int value)
+      throws IndexOutOfBoundsException, IllegalArgumentException, IllegalStateException {
     Part written = partAt(part);
     checkPitch(place, alter);
     checkValue(value);
@@ -57,7 +58,8 @@ public final class ChoraleDesk {
     return written.append(place, alter, value);
   }
 
-  public int addRest(int part, int value) {
+  public int addRest(int part, int value)
+      throws IndexOutOfBoundsException, IllegalArgumentException, IllegalStateException {
     Part written = partAt(part);
     checkValue(value);
     checkRoom(written, value);
@@ -65,7 +67,7 @@ public final class ChoraleDesk {
     return written.append(REST, 0, value);
   }
 
-  public int takeLast(int part) {
+  public int takeLast(int part) throws IndexOutOfBoundsException, IllegalStateException {
     Part written = partAt(part);
     if (written.size() == 0) {
       throw new IllegalStateException("the part has no event");
@@ -74,7 +76,8 @@ public final class ChoraleDesk {
     return written.removeLast();
   }
 
-  public int setPitch(int part, int event, int place, int alter) {
+  public int setPitch(int part, int event, int place, int alter)
+      throws IndexOutOfBoundsException, IllegalArgumentException, IllegalStateException {
     Part written = partWith(part, event);
     checkPitch(place, alter);
     checkNote(written, event);
@@ -84,7 +87,8 @@ public final class ChoraleDesk {
     return before;
   }
 
-  public int setMetre(int bar, int beats, int unit) {
+  public int setMetre(int bar, int beats, int unit)
+      throws IndexOutOfBoundsException, IllegalArgumentException {
     checkBar(bar);
     if (beats < 1 || beats > 12 || (unit != 2 && unit != 4 && unit != 8)) {
       throw new IllegalArgumentException("no such metre");
@@ -94,7 +98,7 @@ public final class ChoraleDesk {
     return calendar.lengthAt(bar);
   }
 
-  public int setKey(int bar, int key) {
+  public int setKey(int bar, int key) throws IndexOutOfBoundsException, IllegalArgumentException {
     checkBar(bar);
     checkKey(key);
     int before = calendar.keyAt(bar);
@@ -103,7 +107,8 @@ public final class ChoraleDesk {
     return before;
   }
 
-  public int setRange(int part, int lowest, int highest) {
+  public int setRange(int part, int lowest, int highest)
+      throws IndexOutOfBoundsException, IllegalArgumentException {
     Part written = partAt(part);
     if (lowest < 1 || lowest > HIGHEST_PLACE || highest < lowest || highest > HIGHEST_PLACE) {
       throw new IllegalArgumentException("no such range");
@@ -113,7 +118,8 @@ public final class ChoraleDesk {
     return written.notesOutOfRange();
   }
 
-  public int setShift(int part, int fifths, int octaves) {
+  public int setShift(int part, int fifths, int octaves)
+      throws IndexOutOfBoundsException, IllegalArgumentException {
     Part written = partAt(part);
     if (fifths < -6 || fifths > 6 || octaves < -2 || octaves > 2) {
       throw new IllegalArgumentException("no such shift");
@@ -125,31 +131,31 @@ public final class ChoraleDesk {
 
   // ---- events and pitches
 
-  public int events(int part) {
+  public int events(int part) throws IndexOutOfBoundsException {
     return partAt(part).size();
   }
 
-  public int beginOf(int part, int event) {
+  public int beginOf(int part, int event) throws IndexOutOfBoundsException {
     return partWith(part, event).beginAt(event);
   }
 
-  public int heightOf(int part, int event) {
+  public int heightOf(int part, int event) throws IndexOutOfBoundsException {
     return partWith(part, event).heightAt(event);
   }
 
-  public int barOf(int part, int event) {
+  public int barOf(int part, int event) throws IndexOutOfBoundsException {
     return calendar.barAt(partWith(part, event).beginAt(event));
   }
 
-  public int writtenPlace(int part, int event) {
+  public int writtenPlace(int part, int event) throws IndexOutOfBoundsException {
     return partWith(part, event).writtenPlaceAt(event);
   }
 
-  public int writtenAlter(int part, int event) {
+  public int writtenAlter(int part, int event) throws IndexOutOfBoundsException {
     return partWith(part, event).writtenAlterAt(event);
   }
 
-  public int alterIn(int key, int step) {
+  public int alterIn(int key, int step) throws IllegalArgumentException {
     checkKey(key);
     if (step < 0 || step >= STEPS) {
       throw new IllegalArgumentException("no such step");
@@ -157,7 +163,7 @@ public final class ChoraleDesk {
     return Scale.alterByKey(key, step);
   }
 
-  public int writtenKey(int part, int bar) {
+  public int writtenKey(int part, int bar) throws IndexOutOfBoundsException {
     Part written = partAt(part);
     checkBar(bar);
     return written.keyAsWritten(calendar.keyAt(bar));
@@ -165,49 +171,49 @@ public final class ChoraleDesk {
 
   // ---- bars and signs
 
-  public int beginOfBar(int bar) {
+  public int beginOfBar(int bar) throws IndexOutOfBoundsException {
     checkBar(bar);
     return calendar.beginAt(bar);
   }
 
-  public int lengthOfBar(int bar) {
+  public int lengthOfBar(int bar) throws IndexOutOfBoundsException {
     checkBar(bar);
     return calendar.lengthAt(bar);
   }
 
-  public int signs(int part, int bar) {
+  public int signs(int part, int bar) throws IndexOutOfBoundsException {
     return measureAt(part, bar).size();
   }
 
-  public int eventOf(int part, int bar, int sign) {
+  public int eventOf(int part, int bar, int sign) throws IndexOutOfBoundsException {
     return measureWith(part, bar, sign).eventAt(sign);
   }
 
-  public int lengthOf(int part, int bar, int sign) {
+  public int lengthOf(int part, int bar, int sign) throws IndexOutOfBoundsException {
     return measureWith(part, bar, sign).lengthAt(sign);
   }
 
-  public boolean isTied(int part, int bar, int sign) {
+  public boolean isTied(int part, int bar, int sign) throws IndexOutOfBoundsException {
     return measureWith(part, bar, sign).tiedAt(sign);
   }
 
-  public int shown(int part, int bar, int sign) {
+  public int shown(int part, int bar, int sign) throws IndexOutOfBoundsException {
     return measureWith(part, bar, sign).shownAt(sign);
   }
 
-  public int shownWritten(int part, int bar, int sign) {
+  public int shownWritten(int part, int bar, int sign) throws IndexOutOfBoundsException {
     return measureWith(part, bar, sign).shownAsWrittenAt(sign);
   }
 
-  public int beams(int part, int bar) {
+  public int beams(int part, int bar) throws IndexOutOfBoundsException {
     return measureAt(part, bar).beamTotal();
   }
 
-  public int beamOf(int part, int bar, int sign) {
+  public int beamOf(int part, int bar, int sign) throws IndexOutOfBoundsException {
     return measureWith(part, bar, sign).beamAt(sign);
   }
 
-  public int missing(int part, int bar) {
+  public int missing(int part, int bar) throws IndexOutOfBoundsException {
     Part written = partAt(part);
     checkBar(bar);
     return calendar.ticksBehind(written.end(), bar);
@@ -220,25 +226,25 @@ public final class ChoraleDesk {
     return harmony.size();
   }
 
-  public int tickOf(int moment) {
+  public int tickOf(int moment) throws IndexOutOfBoundsException {
     checkMoment(moment);
     return harmony.tickAt(moment);
   }
 
-  public int sounds(int moment, int part) {
+  public int sounds(int moment, int part) throws IndexOutOfBoundsException {
     checkMoment(moment);
     return partAt(part).heightAt(harmony.eventAt(moment, part));
   }
 
-  public int root(int moment) {
+  public int root(int moment) throws IndexOutOfBoundsException {
     return chordAt(moment).rootClass();
   }
 
-  public int kind(int moment) {
+  public int kind(int moment) throws IndexOutOfBoundsException {
     return chordAt(moment).kindNumber();
   }
 
-  public int inversion(int moment) {
+  public int inversion(int moment) throws IndexOutOfBoundsException {
     return chordAt(moment).lowestTone();
   }
 
@@ -247,22 +253,23 @@ public final class ChoraleDesk {
     return faultList.size();
   }
 
-  public int kindOfFault(int fault) {
+  public int kindOfFault(int fault) throws IndexOutOfBoundsException {
     checkFault(fault);
     return faultList.kindAt(fault);
   }
 
-  public int tickOfFault(int fault) {
+  public int tickOfFault(int fault) throws IndexOutOfBoundsException {
     checkFault(fault);
     return faultList.tickAt(fault);
   }
 
-  public int partsOfFault(int fault) {
+  public int partsOfFault(int fault) throws IndexOutOfBoundsException {
     checkFault(fault);
     return faultList.partsAt(fault);
   }
 
-  public int faultsIfUp(int part, int event) {
+  public int faultsIfUp(int part, int event)
+      throws IndexOutOfBoundsException, IllegalStateException {
     Part written = partWith(part, event);
     checkNote(written, event);
     int place = written.placeAt(event);
@@ -285,26 +292,26 @@ public final class ChoraleDesk {
     return calendar.barsUpTo(lastEnd());
   }
 
-  public int widthOf(int bar) {
+  public int widthOf(int bar) throws IndexOutOfBoundsException {
     checkBar(bar);
     measureWidths();
     return breaks.widthAt(bar);
   }
 
-  public int lines(int width) {
+  public int lines(int width) throws IllegalArgumentException {
     checkWidth(width);
     breakLines(width);
     return breaks.size();
   }
 
-  public int lineOf(int width, int bar) {
+  public int lineOf(int width, int bar) throws IndexOutOfBoundsException, IllegalArgumentException {
     checkBar(bar);
     checkWidth(width);
     breakLines(width);
     return breaks.lineAt(bar);
   }
 
-  public int costOf(int width) {
+  public int costOf(int width) throws IllegalArgumentException {
     checkWidth(width);
     breakLines(width);
     return breaks.leastCost();
