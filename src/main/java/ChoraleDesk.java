@@ -237,14 +237,17 @@ public final class ChoraleDesk {
   }
 
   public int root(int moment) throws IndexOutOfBoundsException {
+    checkMoment(moment);
     return chordAt(moment).rootClass();
   }
 
   public int kind(int moment) throws IndexOutOfBoundsException {
+    checkMoment(moment);
     return chordAt(moment).kindNumber();
   }
 
   public int inversion(int moment) throws IndexOutOfBoundsException {
+    checkMoment(moment);
     return chordAt(moment).lowestTone();
   }
 
@@ -254,16 +257,19 @@ public final class ChoraleDesk {
   }
 
   public int kindOfFault(int fault) throws IndexOutOfBoundsException {
+    searchFaults();
     checkFault(fault);
     return faultList.kindAt(fault);
   }
 
   public int tickOfFault(int fault) throws IndexOutOfBoundsException {
+    searchFaults();
     checkFault(fault);
     return faultList.tickAt(fault);
   }
 
   public int partsOfFault(int fault) throws IndexOutOfBoundsException {
+    searchFaults();
     checkFault(fault);
     return faultList.partsAt(fault);
   }
@@ -300,6 +306,7 @@ public final class ChoraleDesk {
 
   public int lines(int width) throws IllegalArgumentException {
     checkWidth(width);
+    measureWidths();
     breakLines(width);
     return breaks.size();
   }
@@ -307,12 +314,14 @@ public final class ChoraleDesk {
   public int lineOf(int width, int bar) throws IndexOutOfBoundsException, IllegalArgumentException {
     checkBar(bar);
     checkWidth(width);
+    measureWidths();
     breakLines(width);
     return breaks.lineAt(bar);
   }
 
   public int costOf(int width) throws IllegalArgumentException {
     checkWidth(width);
+    measureWidths();
     breakLines(width);
     return breaks.leastCost();
   }
@@ -328,11 +337,12 @@ public final class ChoraleDesk {
   }
 
   public long digest() {
+    measureWidths();
+    searchFaults();
     long d = 2467;
     for (int part = 0; part < parts.length; part++) {
       d = mixPart(d, parts[part]);
     }
-    measureWidths();
     for (int bar = 0; bar < BARS; bar++) {
       d = mixBar(d, bar);
     }
@@ -366,46 +376,44 @@ public final class ChoraleDesk {
     d = mix(d, calendar.lengthAt(bar));
     d = mix(d, breaks.widthAt(bar));
     for (int part = 0; part < parts.length; part++) {
-      layOut(part, bar);
-      d = mix(d, measure.size());
-      d = mix(d, measure.beamTotal());
+      Measure written = measureAt(part, bar);
+      d = mix(d, written.size());
+      d = mix(d, written.beamTotal());
       d = mix(d, calendar.ticksBehind(parts[part].end(), bar));
       d = mix(d, parts[part].keyAsWritten(calendar.keyAt(bar)));
-      d = mixSigns(d);
+      d = mixSigns(d, written);
     }
     return d;
   }
 
-  private long mixSigns(long d) {
-    for (int sign = 0; sign < measure.size(); sign++) {
-      d = mix(d, measure.eventAt(sign));
-      d = mix(d, measure.lengthAt(sign));
-      d = mix(d, measure.tiedAt(sign) ? 1 : 0);
-      d = mix(d, measure.shownAt(sign));
-      d = mix(d, measure.shownAsWrittenAt(sign));
-      d = mix(d, measure.beamAt(sign));
+  private long mixSigns(long d, Measure written) {
+    for (int sign = 0; sign < written.size(); sign++) {
+      d = mix(d, written.eventAt(sign));
+      d = mix(d, written.lengthAt(sign));
+      d = mix(d, written.tiedAt(sign) ? 1 : 0);
+      d = mix(d, written.shownAt(sign));
+      d = mix(d, written.shownAsWrittenAt(sign));
+      d = mix(d, written.beamAt(sign));
     }
     return d;
   }
 
   private long mixMoments(long d) {
-    hear();
     d = mix(d, harmony.size());
     for (int moment = 0; moment < harmony.size(); moment++) {
       d = mix(d, harmony.tickAt(moment));
       for (int part = 0; part < parts.length; part++) {
         d = mix(d, parts[part].heightAt(harmony.eventAt(moment, part)));
       }
-      chord.tell(parts, harmony, moment);
-      d = mix(d, chord.rootClass());
-      d = mix(d, chord.kindNumber());
-      d = mix(d, chord.lowestTone());
+      Chord told = chordAt(moment);
+      d = mix(d, told.rootClass());
+      d = mix(d, told.kindNumber());
+      d = mix(d, told.lowestTone());
     }
     return d;
   }
 
   private long mixFaults(long d) {
-    searchFaults();
     d = mix(d, faultList.size());
     for (int fault = 0; fault < faultList.size(); fault++) {
       d = mix(d, faultList.kindAt(fault));
@@ -455,17 +463,7 @@ public final class ChoraleDesk {
   }
 
   private void breakLines(int width) {
-    measureWidths();
     breaks.breakUp(calendar.barsUpTo(lastEnd()), width);
-  }
-
-  private void layOut(int part, int bar) {
-    if (part < 0 || part >= parts.length || (part == laidPart && bar == laidBar)) {
-      return;
-    }
-    measure.write(parts[part], calendar, bar);
-    laidPart = part;
-    laidBar = bar;
   }
 
   private int lastEnd() {
@@ -502,9 +500,13 @@ public final class ChoraleDesk {
   }
 
   private Measure measureAt(int part, int bar) {
-    partAt(part);
+    Part written = partAt(part);
     checkBar(bar);
-    layOut(part, bar);
+    if (part != laidPart || bar != laidBar) {
+      measure.write(written, calendar, bar);
+      laidPart = part;
+      laidBar = bar;
+    }
     return measure;
   }
 
@@ -517,7 +519,6 @@ public final class ChoraleDesk {
   }
 
   private Chord chordAt(int moment) {
-    checkMoment(moment);
     chord.tell(parts, harmony, moment);
     return chord;
   }
@@ -530,7 +531,6 @@ public final class ChoraleDesk {
   }
 
   private void checkFault(int fault) {
-    searchFaults();
     if (!faultList.has(fault)) {
       throw new IndexOutOfBoundsException("no such fault");
     }
@@ -588,12 +588,8 @@ public final class ChoraleDesk {
       return place >= 1 && place <= HIGHEST_PLACE && alter >= -2 && alter <= 2;
     }
 
-    static int stepOf(int place) {
-      return Math.floorMod(place, STEPS);
-    }
-
     static int plainHeight(int place) {
-      int step = stepOf(place);
+      int step = Math.floorMod(place, STEPS);
       int above = step >= 0 && step < HEIGHTS.length ? HEIGHTS[step] : 0;
       return CLASSES * Math.floorDiv(place, STEPS) + above;
     }
@@ -738,6 +734,8 @@ public final class ChoraleDesk {
     private final int[] heights;
     private final int[] begins;
     private final int[] lengths;
+    private final int[] writtenPlaces;
+    private final int[] writtenAlters;
     private int count;
     private int end;
     private int lowest;
@@ -751,6 +749,8 @@ public final class ChoraleDesk {
       heights = new int[MOST_EVENTS];
       begins = new int[MOST_EVENTS];
       lengths = new int[MOST_EVENTS];
+      writtenPlaces = new int[MOST_EVENTS];
+      writtenAlters = new int[MOST_EVENTS];
       lowest = 1;
       highest = HIGHEST_PLACE;
     }
@@ -781,12 +781,13 @@ public final class ChoraleDesk {
     }
 
     int removeLast() {
-      if (!has(count - 1)) {
+      int last = count - 1;
+      if (!has(last)) {
         return 0;
       }
-      count--;
-      end = begins[count];
-      return lengths[count];
+      count = last;
+      end = begins[last];
+      return lengths[last];
     }
 
     void givePitch(int event, int place, int alter) {
@@ -796,6 +797,18 @@ public final class ChoraleDesk {
       places[event] = place;
       alters[event] = alter;
       heights[event] = place == REST ? NONE : Scale.plainHeight(place) + alter;
+      writeForInstrument(event);
+    }
+
+    private void writeForInstrument(int event) {
+      if (!has(event)) {
+        return;
+      }
+      int place = places[event] + 4 * fifths + STEPS * octaves;
+      int alter = heights[event] + 7 * fifths + CLASSES * octaves - Scale.plainHeight(place);
+      boolean isWritten = places[event] != REST && Scale.isPitch(place, alter);
+      writtenPlaces[event] = isWritten ? place : NONE;
+      writtenAlters[event] = isWritten ? alter : NO_ALTER;
     }
 
     void changeRange(int newLowest, int newHighest) {
@@ -806,10 +819,13 @@ public final class ChoraleDesk {
     void changeShift(int newFifths, int newOctaves) {
       fifths = newFifths;
       octaves = newOctaves;
+      for (int event = 0; event < count; event++) {
+        writeForInstrument(event);
+      }
     }
 
     boolean isNote(int event) {
-      return placeAt(event) != REST;
+      return has(event) && places[event] != REST;
     }
 
     int placeAt(int event) {
@@ -849,15 +865,16 @@ public final class ChoraleDesk {
     }
 
     boolean isOutOfRange(int event) {
-      return isNote(event) && (placeAt(event) < lowest || placeAt(event) > highest);
+      return has(event) && places[event] != REST
+          && (places[event] < lowest || places[event] > highest);
     }
 
     int writtenPlaceAt(int event) {
-      return hasWrittenPitch(event) ? shiftedPlaceAt(event) : NONE;
+      return has(event) ? writtenPlaces[event] : NONE;
     }
 
     int writtenAlterAt(int event) {
-      return hasWrittenPitch(event) ? shiftedAlterAt(event) : NO_ALTER;
+      return has(event) ? writtenAlters[event] : NO_ALTER;
     }
 
     int keyAsWritten(int key) {
@@ -866,19 +883,6 @@ public final class ChoraleDesk {
         return written - CLASSES;
       }
       return written < -7 ? written + CLASSES : written;
-    }
-
-    private boolean hasWrittenPitch(int event) {
-      return isNote(event) && Scale.isPitch(shiftedPlaceAt(event), shiftedAlterAt(event));
-    }
-
-    private int shiftedPlaceAt(int event) {
-      return placeAt(event) + 4 * fifths + STEPS * octaves;
-    }
-
-    private int shiftedAlterAt(int event) {
-      int height = heightAt(event) + 7 * fifths + CLASSES * octaves;
-      return height - Scale.plainHeight(shiftedPlaceAt(event));
     }
 
     int notes() {
@@ -900,7 +904,7 @@ public final class ChoraleDesk {
     int notesWithoutWrittenPitch() {
       int found = 0;
       for (int event = 0; event < count; event++) {
-        found += isNote(event) && !hasWrittenPitch(event) ? 1 : 0;
+        found += isNote(event) && writtenPlaces[event] == NONE ? 1 : 0;
       }
       return found;
     }
@@ -919,6 +923,7 @@ public final class ChoraleDesk {
     private final int[] signEvents;
     private final int[] ticks;
     private final int[] lengths;
+    private final boolean[] firstOfNote;
     private final boolean[] tied;
     private final int[] shownAlters;
     private final int[] shownAltersAsWritten;
@@ -931,6 +936,7 @@ public final class ChoraleDesk {
       signEvents = new int[MOST_SIGNS];
       ticks = new int[MOST_SIGNS];
       lengths = new int[MOST_SIGNS];
+      firstOfNote = new boolean[MOST_SIGNS];
       tied = new boolean[MOST_SIGNS];
       shownAlters = new int[MOST_SIGNS];
       shownAltersAsWritten = new int[MOST_SIGNS];
@@ -982,7 +988,7 @@ public final class ChoraleDesk {
         int stretchEnd = Math.min(to, part.endAt(event));
         writeStretch(event, Math.max(from, part.beginAt(event)), stretchEnd);
       }
-      tieSigns(part, calendar.end());
+      markSigns(part, calendar.end());
       beamSigns(part, from, calendar.groupLengthAt(bar));
       showAlters(part, calendar.keyAt(bar));
       showAltersAsWritten(part, part.keyAsWritten(calendar.keyAt(bar)));
@@ -1007,19 +1013,20 @@ public final class ChoraleDesk {
       count++;
     }
 
-    private void tieSigns(Part part, int scoreEnd) {
-      for (int sign = 0; has(sign); sign++) {
+    private void markSigns(Part part, int scoreEnd) {
+      for (int sign = 0; sign < count && sign < MOST_SIGNS; sign++) {
         int event = signEvents[sign];
         // What lies behind the last bar has no signs, so nothing is tied to it.
         int noteEnd = Math.min(part.endAt(event), scoreEnd);
         tied[sign] = part.isNote(event) && ticks[sign] + lengths[sign] < noteEnd;
+        firstOfNote[sign] = part.isNote(event) && ticks[sign] == part.beginAt(event);
       }
     }
 
     private void beamSigns(Part part, int barBegin, int groupLength) {
       beamCount = 0;
       int groupAhead = NONE;
-      for (int sign = 0; has(sign); sign++) {
+      for (int sign = 0; sign < count && sign < MOST_SIGNS; sign++) {
         int group = NONE;
         if (groupLength > 0 && lengths[sign] <= 12 && part.isNote(signEvents[sign])) {
           group = (ticks[sign] - barBegin) / groupLength;
@@ -1043,25 +1050,20 @@ public final class ChoraleDesk {
       beamNumbers[sign] = beamNumbers[sign - 1];
     }
 
-    private boolean isFirstOfNote(Part part, int sign) {
-      int event = eventAt(sign);
-      return has(sign) && part.isNote(event) && ticks[sign] == part.beginAt(event);
-    }
-
     private void showAlters(Part part, int key) {
       Arrays.fill(altersInForce, NO_ALTER);
-      for (int sign = 0; has(sign); sign++) {
+      for (int sign = 0; sign < count && sign < MOST_SIGNS; sign++) {
         int event = signEvents[sign];
-        shownAlters[sign] = isFirstOfNote(part, sign)
+        shownAlters[sign] = firstOfNote[sign]
             ? alterToShow(part.placeAt(event), part.alterAt(event), key) : NO_ALTER;
       }
     }
 
     private void showAltersAsWritten(Part part, int key) {
       Arrays.fill(altersInForce, NO_ALTER);
-      for (int sign = 0; has(sign); sign++) {
+      for (int sign = 0; sign < count && sign < MOST_SIGNS; sign++) {
         int event = signEvents[sign];
-        shownAltersAsWritten[sign] = isFirstOfNote(part, sign)
+        shownAltersAsWritten[sign] = firstOfNote[sign]
             ? alterToShow(part.writtenPlaceAt(event), part.writtenAlterAt(event), key) : NO_ALTER;
       }
     }
@@ -1072,7 +1074,7 @@ public final class ChoraleDesk {
       }
       int inForce = altersInForce[place];
       if (inForce == NO_ALTER) {
-        inForce = Scale.alterByKey(key, Scale.stepOf(place));
+        inForce = Scale.alterByKey(key, place % STEPS);
       }
       if (alter == inForce) {
         return NO_ALTER;
@@ -1239,6 +1241,7 @@ public final class ChoraleDesk {
     private final int[] heightsAhead;
     private final int[] heightsNow;
     private final boolean[] begins;
+    private final int[] ways;
     private int count;
 
     FaultList() {
@@ -1248,6 +1251,7 @@ public final class ChoraleDesk {
       heightsAhead = new int[PARTS];
       heightsNow = new int[PARTS];
       begins = new boolean[PARTS];
+      ways = new int[PARTS];
     }
 
     int size() {
@@ -1302,13 +1306,16 @@ public final class ChoraleDesk {
         heightsAhead[part] = heightsNow[part];
         heightsNow[part] = parts[part].heightAt(event);
         begins[part] = parts[part].isNote(event) && parts[part].beginAt(event) == harmony.tickAt(moment);
+        // 1 up to a note that begins now, -1 down, 0 neither.
+        ways[part] = begins[part] && heightsAhead[part] != NONE
+            ? Integer.compare(heightsNow[part], heightsAhead[part]) : 0;
       }
     }
 
     private void searchParallels(int tick) {
       for (int p = 0; p < PARTS; p++) {
         for (int q = p + 1; q < PARTS; q++) {
-          if (moveTogether(p, q)) {
+          if (ways[p] != 0 && ways[p] == ways[q]) {
             int ahead = Math.floorMod(heightsAhead[p] - heightsAhead[q], CLASSES);
             int now = Math.floorMod(heightsNow[p] - heightsNow[q], CLASSES);
             if (ahead == now && now == 7) {
@@ -1319,19 +1326,6 @@ public final class ChoraleDesk {
           }
         }
       }
-    }
-
-    private boolean moveTogether(int p, int q) {
-      int way = wayOf(p);
-      return way != 0 && way == wayOf(q);
-    }
-
-    /** 1 if the part steps up to a note that begins now, -1 if down, 0 if neither. */
-    private int wayOf(int part) {
-      if (part < 0 || part >= PARTS || !begins[part] || heightsAhead[part] == NONE) {
-        return 0;
-      }
-      return Integer.compare(heightsNow[part], heightsAhead[part]);
     }
 
     private void searchCrossings(int tick) {

@@ -869,17 +869,25 @@ public final class ModelTests {
     final int seed;
     final StringBuilder told = new StringBuilder();
     boolean failed;
+    String lastCall = "digest()";
+    LongSupplier lastIs;
+    LongSupplier lastDue;
 
     Run(int seed) {
       this.seed = seed;
       this.random = new Random(seed);
       this.style = seed % 5;
+      this.lastIs = () -> desk.digest();
+      this.lastDue = () -> model.digest();
     }
 
     void same(String call, LongSupplier is, LongSupplier due) {
       long want = answer(due);
       long got = answer(is);
       told.append(call).append(" -> ").append(got).append('\n');
+      lastCall = call;
+      lastIs = is;
+      lastDue = due;
       if (got != want && !failed) {
         failed = true;
         wrong++;
@@ -1096,6 +1104,16 @@ public final class ModelTests {
       }
     }
 
+    /** So that an answer that was kept from before the writing comes to light. */
+    void askAndWriteAndAskAgain() {
+      ask();
+      String call = lastCall;
+      LongSupplier is = lastIs;
+      LongSupplier due = lastDue;
+      write();
+      same(call, is, due);
+    }
+
     void go(int calls) {
       if (style == 1 || seed % 7 == 0) {
         int beats = from(1, 3);
@@ -1105,6 +1123,8 @@ public final class ModelTests {
       for (int call = 0; call < calls && !failed; call++) {
         if (random.nextInt(10) < asking) {
           ask();
+        } else if (random.nextInt(3) == 0) {
+          askAndWriteAndAskAgain();
         } else {
           write();
         }

@@ -547,6 +547,51 @@ public final class PromiseTests {
     due(25, "writtenKey", desk.writtenKey(2, 0), -4);
   }
 
+  /** Answers that could be kept follow each writing at once. */
+  private static void followsTheWriting() {
+    ChoraleDesk desk = new ChoraleDesk();
+    desk.addNote(0, 38, 1, 16);
+    due(24, "shown", desk.shown(0, 0, 0), 1);
+    desk.setPitch(0, 0, 38, -1);
+    due(5, "shown after setPitch", desk.shown(0, 0, 0), -1);
+    desk.setKey(0, -7);
+    due(7, "shown after setKey", desk.shown(0, 0, 0), -3);
+    due(7, "shownWritten after setKey", desk.shownWritten(0, 0, 0), -3);
+    desk.setShift(0, -6, 0);
+    due(9, "shownWritten after setShift", desk.shownWritten(0, 0, 0), -2);
+    desk.setPitch(0, 0, 38, 0);
+    due(5, "shownWritten after setPitch", desk.shownWritten(0, 0, 0), -1);
+    desk.setShift(0, 0, 0);
+    due(9, "shownWritten after setShift", desk.shownWritten(0, 0, 0), 0);
+    due(20, "signs", desk.signs(0, 0), 1);
+    desk.setMetre(0, 1, 8);
+    due(6, "signs after setMetre", desk.signs(0, 0), 1);
+    due(6, "lengthOf after setMetre", desk.lengthOf(0, 0, 0), 8);
+    desk.setMetre(0, 4, 4);
+    due(6, "lengthOf after setMetre", desk.lengthOf(0, 0, 0), 16);
+    desk.addRest(0, 8);
+    due(3, "signs after addRest", desk.signs(0, 0), 2);
+    due(3, "moments after addRest", desk.moments(), 2);
+    desk.addNote(0, 38, 0, 8);
+    due(2, "signs after addNote", desk.signs(0, 0), 3);
+    due(2, "moments after addNote", desk.moments(), 3);
+    due(35, "faults", desk.faults(), 0);
+    due(41, "widthOf", desk.widthOf(0), 3 + 2 + 6 + 5 + 7);
+    desk.setRange(0, 1, 37);
+    due(8, "faults after setRange", desk.faults(), 2);
+    desk.takeLast(0);
+    due(4, "faults after takeLast", desk.faults(), 1);
+    due(4, "signs after takeLast", desk.signs(0, 0), 2);
+    due(4, "moments after takeLast", desk.moments(), 2);
+    due(4, "widthOf after takeLast", desk.widthOf(0), 3 + 2 + 6 + 7);
+    desk.setKey(0, 0);
+    due(7, "widthOf after setKey", desk.widthOf(0), 3 + 6 + 7);
+    desk.setMetre(0, 3, 4);
+    due(6, "widthOf after setMetre", desk.widthOf(0), 3 + 6 + 7);
+    desk.setMetre(0, 2, 4);
+    due(6, "widthOf after setMetre", desk.widthOf(0), 3 + 6 + 6);
+  }
+
   private static void beams() {
     ChoraleDesk desk = new ChoraleDesk();
     int[] values = {8, 8, 8, 4, 4, 12, 4, 16};
@@ -935,6 +980,7 @@ public final class PromiseTests {
     barsInTime();
     signs();
     accidentals();
+    followsTheWriting();
     beams();
     missing();
     momentsAndSounds();

@@ -79,7 +79,17 @@ public final class RoomTests {
     }
   }
 
-  /** 512 notes in one part, so that a part, its moments and its faults are as many as can be. */
+  /** The 512th call may still add a note. */
+  private static void lastNote() {
+    for (int shared = 2; shared <= 4; shared++) {
+      ChoraleDesk desk = new ChoraleDesk();
+      for (int note = 0; note < 512; note++) {
+        due("addNote", desk.addNote(note % shared, 30, 0, 4), note / shared);
+      }
+    }
+  }
+
+  /** 511 notes in one part, so that a part, its moments and its faults are as many as can be. */
   private static void longestPart() {
     ChoraleDesk desk = new ChoraleDesk();
     desk.setMetre(0, 12, 2);
@@ -142,6 +152,7 @@ public final class RoomTests {
   }
 
   public static void main(String[] args) {
+    lastNote();
     longestPart();
     mostFaults();
     oddCalls();
